@@ -611,6 +611,7 @@ public final class StateRecords {
         return thing.values[k];
     }
 
+    // Asked after recording, whose things still stand in recorded: shut fields hinder no comparison.
     private int firstShutSlot(Records records) {
         for (int r = 0; r < records.recordCount; r++) {
             Type type = recorded[r].type;
@@ -649,7 +650,7 @@ public final class StateRecords {
     }
 
     private int fillThings(Records from, int first, int rule) {
-        for (int i = 0; i < rowsPutBack.length; i++) {
+        for (int i = 0; i < from.rowCount * ROW_LANES; i++) {
             rowsPutBack[i] = null;
         }
         for (int r = 0; r < from.recordCount; r++) {
@@ -930,8 +931,9 @@ public final class StateRecords {
             }
         }
 
+        /** Notes are there only while a mark stands, so without one this is never so. */
         boolean isFull() {
-            return markCount > 0 && noteCount >= MOST_NOTES;
+            return noteCount >= MOST_NOTES;
         }
 
         void noteField(Thing thing, int k) {
@@ -943,7 +945,7 @@ public final class StateRecords {
         }
 
         private void write(Thing thing, int index, long value, Row row) {
-            if (markCount == 0 || noteCount >= MOST_NOTES) {
+            if (markCount == 0 || isFull()) {
                 return;
             }
             Note note = notes[noteCount];
