@@ -372,6 +372,30 @@ final class SaveCallsTest extends Sentences {
         due("another order", w.differs(0, 0), 99);
     }
 
+    @Says(in = "Promise 25", value = "its FIELDS' NAMES, LANES are")
+    static void differsByNameOrLaneOfOneField() {
+        for (int k = 0; k < 3; k++) {
+            World w = World.of(BYTES, BYTES, BYTES).things(1, 0);
+            w.save(0, 0);
+            for (int j = 2; j >= k; j--) {
+                w.drop(0, j);
+            }
+            w.field(0, 10 + k, LONGS, 0);
+            for (int j = k + 1; j < 3; j++) {
+                w.field(0, 10 + j, BYTES, 0);
+            }
+            due("lane of field " + k, w.differs(0, 0), 99);
+            for (int j = 2; j >= k; j--) {
+                w.drop(0, j);
+            }
+            w.field(0, 5, BYTES, 0);
+            for (int j = k + 1; j < 3; j++) {
+                w.field(0, 10 + j, BYTES, 0);
+            }
+            due("name of field " + k, w.differs(0, 0), 99);
+        }
+    }
+
     @Says(in = "Promise 25", value = "99: .. LANES are")
     static void differsByShapeAheadOfValues() {
         World w = World.of(WHOLE, THING).typed(WHOLE).things(1, 0).things(1, 1);

@@ -252,6 +252,25 @@ final class SavesTest extends Sentences {
         due("from 0 again", w.restore(0, 0), 0);
     }
 
+    @Says(in = "Terms", value = "PUTTING BACK a SAVE: for each RECORD a new THING")
+    static void eachPuttingBackHasRowsOfItsOwn() {
+        for (int lane = BYTES; lane <= LONGS; lane++) {
+            World w = World.of(lane, lane, lane, lane, lane).things(1, 0);
+            for (int k = 0; k < 5; k++) {
+                w.row(0, k, 1);
+            }
+            w.save(0, 0);
+            w.restore(0, 0);
+            for (int k = 0; k < 5; k++) {
+                w.item(1, k, 0, 60 + k);
+            }
+            due("a second time", w.restore(0, 0), 2);
+            for (int k = 0; k < 5; k++) {
+                due("its own row in field " + k, w.itemAt(2, k, 0), 0);
+            }
+        }
+    }
+
     @Says(in = "Terms", value = "FIELDS go by their NAMES")
     static void fieldsGoByNames() {
         World w = World.of(WHOLE, WHOLE, WORD).things(1, 0);

@@ -304,6 +304,17 @@ final class TypeCallsTest extends Sentences {
         due("by it", w.shut(0, 0, false), 0);
     }
 
+    @Says(in = "Promise 5", value = "A FIELD is SHUT, or not")
+    static void aNewFieldIsNotShut() {
+        World w = World.of(WHOLE, WHOLE).things(1, 0);
+        w.shut(0, 0, true);
+        w.shut(0, 1, true);
+        w.drop(0, 1);
+        w.field(0, 11, WHOLE, 0);
+        due("one that comes where a shut one was", w.shut(0, 1, false), 0);
+        due("the one ahead stays shut", w.shut(0, 0, false), 1);
+    }
+
     @Says(in = "Promise 5", value = "A FIELD is SHUT")
     static void shutHindersOnlySaving() {
         World w = World.of(WHOLE).things(2, 0);
