@@ -16,7 +16,7 @@ public final class ModelTest {
     private static final String[] NAMES = {"type", "field", "drop", "shut", "check", "unchecked", "word", "thing",
         "put", "refer", "row", "share", "item", "at", "itemAt", "forget", "told", "judge", "save", "saved", "restore",
         "fault", "like", "differs", "mark", "undo", "count"};
-    private static final int[] ODDS = {2, 9, 2, 2, 3, 2, 3, 10, 12, 14, 9, 9, 14, 6, 6, 1, 2, 8, 8, 2, 10, 4, 10, 8, 3,
+    private static final int[] ODDS = {2, 9, 4, 2, 2, 3, 3, 10, 12, 14, 9, 9, 14, 6, 6, 1, 2, 8, 8, 2, 10, 4, 10, 8, 3,
         3, 3};
     private static final int[] HOW_MANY = {0, 4, 2, 3, 5, 1, 2, 1, 3, 3, 3, 4, 4, 2, 3, 0, 2, 1, 2, 2, 2, 1, 2, 2, 0, 0,
         1};
@@ -714,7 +714,7 @@ public final class ModelTest {
                 return 12;
             }
             boolean enough = c == 0 && world.kinds.size() >= types || c == 7 && world.beings.size() > 8;
-            return enough && random.nextInt(10) != 0 ? 12 : c;
+            return enough && random.nextInt(10) != 0 ? 8 + random.nextInt(5) : c;
         }
 
         /** Types with fields and some things come first, or a run comes to nothing much; -1: they are there. */
@@ -747,7 +747,7 @@ public final class ModelTest {
             int y = number(world.beings.size());
             int t = number(world.kinds.size());
             switch (c) {
-                case 1: return new int[] {t, number(names), number(6)};
+                case 1: return random.nextBoolean() ? comingAgain(t) : new int[] {t, number(names), number(6)};
                 case 2: case 3: return new int[] {t, number(5)};
                 case 4: return check(t);
                 case 5: case 7: return new int[] {t};
@@ -756,7 +756,7 @@ public final class ModelTest {
                 case 9: return new int[] {x, fieldOf(x, 2, 2), random.nextInt(8) == 0 ? -1 : y};
                 case 10: return new int[] {x, fieldOf(x, 3, 5), random.nextInt(8) == 0 ? -1 : number(4)};
                 case 11: return sharing(x, y);
-                case 12: case 14: return new int[] {x, fieldOf(x, 3, 5), number(3)};
+                case 12: case 14: return itemSomewhere(x);
                 case 13: return new int[] {x, number(5)};
                 case 16: return new int[] {x, number(2)};
                 case 17: return new int[] {x};
@@ -768,6 +768,36 @@ public final class ModelTest {
                 case 26: return new int[] {number(4)};
                 default: return new int[0];
             }
+        }
+
+        /** A field that a save has and its type has no more, mostly of a lane to which it may come. */
+        int[] comingAgain(int t) {
+            Keeping save = world.saves[random.nextInt(4)];
+            for (int r = 0; save != null && r < save.records.size(); r++) {
+                Record record = save.records.get(r);
+                for (Kept kept : record.fields) {
+                    if (world.kinds.get(record.kind).named(kept.name) == null && random.nextInt(3) != 0) {
+                        int wider = kept.lane == 1 ? 0 : kept.lane > 2 ? kept.lane + random.nextInt(6 - kept.lane) : 2;
+                        return new int[] {record.kind, kept.name, random.nextInt(4) == 0 ? number(6) : wider};
+                    }
+                }
+            }
+            return new int[] {t, number(names), number(6)};
+        }
+
+        /** An item of a row that is there, mostly, if some tries come to one. */
+        int[] itemSomewhere(int first) {
+            int x = first;
+            int k = fieldOf(x, 3, 5);
+            for (int tries = 0; tries < 6 && random.nextInt(10) != 0; tries++) {
+                Def d = world.defOf(x, k);
+                if (d != null && world.beings.get(x).get(d) instanceof long[]) {
+                    break;
+                }
+                x = number(world.beings.size());
+                k = fieldOf(x, 3, 5);
+            }
+            return new int[] {x, k, number(3)};
         }
 
         /** Two fields of one lane of rows, where there are such. */
@@ -802,7 +832,11 @@ public final class ModelTest {
             return k;
         }
 
-        long value() {
+        long value(int c) {
+            if (c == 3 && random.nextInt(4) != 0) {
+                // Opened oftener than shut, or few saves would come to anything.
+                return 1;
+            }
             switch (random.nextInt(12)) {
                 case 0: return random.nextLong();
                 case 1: return random.nextInt();
@@ -821,7 +855,7 @@ public final class ModelTest {
         for (int n = 0; n < CALLS; n++) {
             int c = chooser.next();
             int[] i = Arrays.copyOf(chooser.arguments(c), 5);
-            long v = chooser.value();
+            long v = chooser.value(c);
             long due = world.call(c, i, v);
             long got = call(s, c, i, v);
             told.append(NAMES[c]).append(Arrays.toString(Arrays.copyOf(i, HOW_MANY[c]))).append(" v ").append(v)
